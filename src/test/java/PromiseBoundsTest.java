@@ -276,7 +276,8 @@ public final class PromiseBoundsTest {
     // its rules take the place of all that were
     private static void placeOfAllThatWere() {
         Board x = Board.of("via on top in p rank 9 1 to 2 nm;gap between class a and net n most 5 nm;test 1;", 3);
-        x.clear().reads("ring 7 nm;", 1).writes("ring of any 7 nm ;\n");
+        // Twice, lest an old rule's place be used again with something left in it.
+        x.clear().reads("ring 7 nm;", 1).reads(1).writes("ring of any 7 nm ;\n");
         int[] want = {11, -1, -1, -1, -1, 0, -1, 0};
         for (int what = 0; what < 8; what++) {
             x.part(0, what, want[what]);
@@ -325,6 +326,9 @@ public final class PromiseBoundsTest {
         Board.of("via 1 nm;via", -6);
         Board.of("test 1;".repeat(59) + "test", -179);
         Board.of("test 1;".repeat(59) + "test 1", -180);
+        breaksOff("gap between class a and net n on layer 3 in p rank 7 1 to 2 mm ;");
+        breaksOff("turns of net m on inner in q rank 7 least 2 ;");
+        breaksOff("waive class a and net n ;");
         // A word that is cut off is a wrong one, not one behind which more must follow.
         Board.of("vi", -1);
         Board.of("gap betwee", -2);
@@ -332,6 +336,17 @@ public final class PromiseBoundsTest {
         Board.of("turns 5", -3);
         Board.of("turns 5 to", -4);
         Board.of("turns 5 to 6", -5);
+    }
+
+    private static void breaksOff(String sentence) {
+        String[] words = sentence.split(" ");
+        StringBuilder begun = new StringBuilder();
+        for (int i = 0; i < words.length - 1; i++) {
+            begun.append(i == 0 ? "" : " ").append(words[i]);
+            Board.of(begun.toString(), -1 - (i + 1));
+            Board.of(begun + " \n", -1 - (i + 1));
+        }
+        Board.of(sentence, 1);
     }
 
     // all stays then

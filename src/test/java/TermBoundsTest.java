@@ -354,6 +354,9 @@ public final class TermBoundsTest {
         Board.wrong("via 5 to 6 to 7 nm;", 4);
         Board.wrong("via to 6 nm;", 1);
         Board.wrong("via 5 to nm;", 3);
+        Board.wrong("via 5 to;", 3);
+        Board.wrong("turns 5 to;", 3);
+        Board.wrong("turns ;", 1);
         Board.wrong("via 5 nm to 6 nm;", 3);
     }
 
@@ -472,7 +475,8 @@ public final class TermBoundsTest {
             Board.of("via " + whole[i] + ";", 1).ends(0, worth[i], worth[i]);
         }
         String[] not = {"0.000001 nm", "0.999999 nm", "1.000001 nm", "0.5 nm", "0.000999 um", "0.001001 um",
-            "0.0005 um", "0.004999 mil", "0.005001 mil", "0.001 mil", "0.000004 inch", "0.000006 inch", "0.000001 inch"};
+            "0.0005 um", "0.004999 mil", "0.005001 mil", "0.001 mil", "0.000004 inch", "0.000006 inch",
+            "0.000001 inch"};
         for (String n : not) {
             Board.wrong("via " + n + ";", 1);
             Board.wrong("via least " + n + ";", 2);
@@ -527,12 +531,16 @@ public final class TermBoundsTest {
     private static void noSuchSentenceGoesOn() {
         String[] gap = "gap between class a and net n on layer 3 in p rank 7 1 to 2 mm ;".split(" ");
         String[] waiver = "waive class a and net n ;".split(" ");
-        String[][] sentences = {gap, waiver};
+        String[] count = "turns of class a on top in p rank 7 least 2 ;".split(" ");
+        String[][] sentences = {gap, waiver, count};
         for (String[] words : sentences) {
             StringBuilder begun = new StringBuilder();
             for (int i = 0; i < words.length; i++) {
                 Board.wrong(begun + "foo", i);
                 Board.wrong(begun + "foo " + words[i], i);
+                if (i < words.length - 1) {
+                    Board.wrong(begun + ";", i);
+                }
                 begun.append(words[i]).append(' ');
             }
             Board.of(begun.toString(), 1);
